@@ -198,6 +198,24 @@ public final class PatternsTest {
         Check.report("12: of three attributes", Build.matches(y, 0), "0+1");
     }
 
+    private static void bothOfSames() {
+        int[][] tokens = {{1, 2, 3}, {1, 2, 4}, {1, 5, 4}, {6, 5, 4}, {6, 5, 4}, {6, 5, 4}};
+        Corpusline x = new Corpusline();
+        for (int[] t : tokens) {
+            x.token(0, t[0], t[1], t[2]);
+        }
+        x.any();
+        x.label(1);
+        for (int attribute = 0; attribute < 3; attribute++) {
+            x.same(attribute, 1);
+        }
+        x.both();
+        x.both();
+        x.chain();
+        x.run(0, x.keep(), 0, 0, true);
+        Check.report("12: the same in all attributes", Build.matches(x, 0), "3+2 4+2");
+    }
+
     private static void manyBoths() {
         Corpusline x = withWords("123");
         x.test(0, 1, true);
@@ -234,10 +252,21 @@ public final class PatternsTest {
         found("13: chain of none and some", "1212", "1{012+", "0+2 1+1 2+2 3+1", "0+2 1+1 2+2 3+1");
         found("13: chain of some and none", "1212", "12{01+", "0+2 2+2", "0+1 2+1");
         found("13: chain of none and none", "12", "1{012{01+", "0+2 1+1", "0+1 1+1");
+        found("13: none twice, ahead of some", "312323", "1{012{01+3+", "0+1 1+3 2+2 3+1 4+2 5+1",
+                "0+1 1+3 2+2 3+1 4+2 5+1");
+        found("13: some ahead of none twice", "312", "31{012{01++", "0+3", "0+1");
+        found("13: none ahead of none or some", "1232", "1{012{013++", "0+3 1+2 2+1", "0+3 1+2 2+1");
+        found("13: none only once", "13123", "12{01+3+", "0+2 2+3", "0+2 2+3");
         found("14: one of them", "123", "12|", "0+1 1+1", "0+1 1+1");
         found("14: of unlike length", "123", "112+|", "0+2", "0+1");
         found("14: the longer first", "123", "12+1|", "0+2", "0+1");
         found("14: with none, behind it", "123", "12{01|3+", "1+2 2+1", "1+2 2+1");
+        found("14: with none, ahead in it", "132", "1{012|3+", "0+2 1+1", "0+2 1+1");
+        found("14: without none", "1323", "12|3+", "0+2 2+2", "0+2 2+2");
+        found("14: two ways to begin the first", "2123", "1{012+3|", "0+1 1+2 2+1 3+1", "0+1 1+2 2+1 3+1");
+        found("14: two ways to begin the second", "2123", "31{012+|", "0+1 1+2 2+1 3+1", "0+1 1+2 2+1 3+1");
+        found("14: two ways to end the first", "1213", "12{01+3|", "0+2 2+1 3+1", "0+1 2+1 3+1");
+        found("14: two ways to end the second", "1213", "312{01+|", "0+2 2+1 3+1", "0+1 2+1 3+1");
         found("14: of chains", "1243", "12+34+|43+|", "0+2 2+2", "0+2 2+2");
         found("14: both fit, behind each", "1123", "112+|.+", "0+2 1+3", "0+2 1+2");
     }
@@ -344,6 +373,7 @@ public final class PatternsTest {
         label();
         labelsAfterEnds();
         both();
+        bothOfSames();
         manyBoths();
         chainAndEither();
         repeat();

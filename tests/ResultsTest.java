@@ -131,6 +131,7 @@ public final class ResultsTest {
         aligned("22: one pair", ".", "0+1 1+1", "2+1 3+1 4+1", 0, 0);
         aligned("22: the word is not there", "2", "", all, 0, 0);
         aligned("22: one of several has it", "2", "2+1 3+1", "0+1 1+1 4+1", 0, 0, 1, 0, 1, 1);
+        aligned("22: the first of several has it", "2", "2+1 3+1", "0+1 1+1 4+1", 1, 1, 1, 0, 1, 3);
         aligned("22: all three", ".", all, "", 0, 0, 1, 2, 2, 3);
         aligned("22: a row of two", "33+", "4+1", "0+1 1+1 2+1 3+1", 2, 2, 0, 3);
         aligned("22: a row over the end of a sentence", "12+", "", all, 0, 0, 0, 1);
@@ -165,6 +166,35 @@ public final class ResultsTest {
         Check.due("22: side 1, no five", 4, () -> x.aligned(2, five, true));
         Check.report("22: side 1, no five", Build.matches(x, 2), "1+1 2+1 3+1 4+1");
         Check.due("22: side 1, any of it left", 1, () -> x.aligned(4, any, false));
+        x.align(1, 2);
+        x.align(2, 2);
+        x.run(4, any, 1, 0, true);
+        Check.due("22: side 1, the first of several has it", 2, () -> x.aligned(4, two, false));
+    }
+
+    private static void alignedOnFullSides() {
+        Corpusline x = new Corpusline();
+        for (int i = 0; i < 40; i++) {
+            x.token(0, i, 0, 0);
+            x.end(0, false);
+            x.token(1, i, 0, 0);
+            x.end(1, false);
+        }
+        for (int i = 0; i < 40; i++) {
+            x.align(i, 39 - i);
+        }
+        x.test(0, 7, false);
+        x.test(0, 39, false);
+        x.either();
+        int seldom = x.keep();
+        int any = Build.pattern(x, ".");
+        x.run(0, any, 0, 0, true);
+        x.run(1, any, 1, 0, true);
+        Check.due("22: full sides", 2, () -> x.aligned(0, seldom, false));
+        Check.report("22: full sides", Build.matches(x, 0), "0+1 32+1");
+        Check.due("22: full sides, none", 38, () -> x.aligned(1, seldom, true));
+        Check.due("22: full sides, a last match", 3901, () -> x.match(1, 37));
+        groupsOf(x, 0, Corpusline.WORD, true, 1000, 1032);
     }
 
     private static void alignedThrows() {
@@ -347,6 +377,7 @@ public final class ResultsTest {
         aligned();
         alignedByFirstToken();
         alignedFromSideOne();
+        alignedOnFullSides();
         alignedThrows();
         dropAndSize();
         match();

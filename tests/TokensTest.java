@@ -126,6 +126,15 @@ public final class TokensTest {
         Check.due("4: still once", 5, () -> x.align(2, 1));
     }
 
+    private static void alignSingleTokens() {
+        Corpusline x = new Corpusline();
+        x.token(0, 1, 0, 0);
+        x.token(1, 1, 0, 0);
+        Check.due("4: sentences that are not ended", 1, () -> x.align(0, 0));
+        Check.index("4: the only one", () -> x.align(0, 1));
+        Check.index("4: the only one of the side 0", () -> x.align(1, 0));
+    }
+
     private static void alignManyPairs() {
         Corpusline x = new Corpusline();
         for (int i = 0; i < 40; i++) {
@@ -194,6 +203,7 @@ public final class TokensTest {
         end();
         endsInAnyOrder();
         align();
+        alignSingleTokens();
         alignManyPairs();
         tokensAndSentenceOf();
         occurs();
