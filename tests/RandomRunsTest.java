@@ -184,7 +184,7 @@ public final class RandomRunsTest {
             }
         }
         call("wipe");
-        for (int result = 0; result < 8; result++) {
+        for (int result = 0; result < 8 && calls < CALLS; result++) {
             int size = Integer.parseInt(call("size", result));
             for (int match = 0; match <= size && calls < CALLS; match++) {
                 call("match", result, match);

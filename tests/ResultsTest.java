@@ -51,31 +51,6 @@ public final class ResultsTest {
         Check.report("20: lengths are kept apart", Build.matches(x, 0), "0+3 1+3 2+2");
     }
 
-    private static void joinThrows() {
-        Corpusline x = withResults("1212", ".", "12+");
-        Build.words(x, 1, "12");
-        x.run(2, 0, 1, 0, true);
-        String seen = Build.seen(x);
-        for (int none : NO_RESULTS) {
-            Check.index("20: result " + none, () -> x.join(none, 0, 0));
-            Check.index("20: other " + none, () -> x.join(0, none, 0));
-            Check.index("20: both " + none, () -> x.join(none, none, 9));
-            Check.index("20: result ahead of how", () -> x.join(none, 2, -1));
-            Check.index("20: other ahead of how", () -> x.join(2, none, 3));
-        }
-        int[] hows = {-1, 3, MIN, MAX};
-        for (int how : hows) {
-            Check.argument("20: how " + how, () -> x.join(0, 1, how));
-            Check.argument("20: how ahead of unlike sides", () -> x.join(0, 2, how));
-        }
-        for (int how = 0; how < 3; how++) {
-            int h = how;
-            Check.state("20: unlike sides", () -> x.join(0, 2, h));
-            Check.state("20: unlike sides, turned", () -> x.join(2, 1, h));
-        }
-        Check.report("20: a call that throws changes nothing", Build.seen(x), seen);
-    }
-
     private static void thin() {
         Corpusline x = withResults("11111", ".{13", "!.", ".{22");
         Check.due("21: of 0+3 1+3 2+3 3+2 4+1", 2, () -> x.thin(0));
@@ -197,22 +172,6 @@ public final class ResultsTest {
         groupsOf(x, 0, Corpusline.WORD, true, 1000, 1032);
     }
 
-    private static void alignedThrows() {
-        Corpusline x = withPairs(0, 0);
-        int any = Build.pattern(x, ".");
-        x.run(0, any, 0, 0, true);
-        String seen = Build.seen(x);
-        for (int none : NO_RESULTS) {
-            Check.index("22: result " + none, () -> x.aligned(none, any, false));
-        }
-        int[] patterns = {-1, 1, 12, MIN, MAX};
-        for (int none : patterns) {
-            Check.index("22: pattern " + none, () -> x.aligned(0, none, false));
-            Check.index("22: pattern " + none + ", none", () -> x.aligned(0, none, true));
-        }
-        Check.report("22: a call that throws changes nothing", Build.seen(x), seen);
-    }
-
     private static void dropAndSize() {
         Corpusline x = withResults("1212", ".", "12+", "3");
         Check.due("24: four", 4, () -> x.size(0));
@@ -317,23 +276,6 @@ public final class ResultsTest {
         groupsOf(x, 1, Corpusline.KIND, true, 6002, 2003, 2009, 1001);
     }
 
-    private static void groupsThrow() {
-        Corpusline x = withAttributes();
-        for (int none : NO_RESULTS) {
-            Check.index("26: result " + none, () -> x.groups(none, 0, false));
-            Check.index("26: result ahead of attribute", () -> x.groups(none, 3, false));
-            Check.index("27: result " + none, () -> x.groupAt(none, 0, false, 0));
-            Check.index("27: result ahead of attribute", () -> x.groupAt(none, -1, true, 0));
-        }
-        int[] attributes = {-1, 3, MIN, MAX};
-        for (int w : attributes) {
-            Check.argument("26: attribute " + w, () -> x.groups(0, w, true));
-            Check.argument("27: attribute " + w, () -> x.groupAt(0, w, true, 0));
-            Check.argument("27: whatever group is", () -> x.groupAt(0, w, true, 99));
-            Check.argument("27: even -1", () -> x.groupAt(2, w, false, -1));
-        }
-    }
-
     /** Many lengths at each place: 40 places, up to 8 lengths, all in order. */
     private static void fullResult() {
         Corpusline x = new Corpusline();
@@ -372,17 +314,14 @@ public final class ResultsTest {
     public static void main(String[] args) {
         join();
         joinWithItself();
-        joinThrows();
         thin();
         aligned();
         alignedByFirstToken();
         alignedFromSideOne();
         alignedOnFullSides();
-        alignedThrows();
         dropAndSize();
         match();
         groups();
-        groupsThrow();
         fullResult();
         Check.finish();
     }

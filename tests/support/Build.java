@@ -67,35 +67,4 @@ public final class Build {
         }
         return matches(x, 7);
     }
-
-    /** Returns all that an object answers without being changed, as one text. */
-    public static String seen(Corpusline x) {
-        StringBuilder text = new StringBuilder();
-        for (int side = 0; side < 2; side++) {
-            text.append(x.tokens(side)).append(':');
-            for (int place = 0; place < x.tokens(side); place++) {
-                text.append(x.sentenceOf(side, place)).append(' ');
-            }
-            for (int value = 0; value < 300; value++) {
-                text.append(x.occurs(side, value / 100, value % 100));
-            }
-            for (int pattern = 0; pattern < 12; pattern++) {
-                for (int how = 0; how < 6; how++) {
-                    int p = pattern;
-                    int s = side;
-                    int h = how;
-                    text.append(' ').append(Check.nameOf(() -> x.walk(p, s, h / 2, h % 2 == 0)));
-                }
-            }
-        }
-        for (int result = 0; result < 8; result++) {
-            text.append(" r").append(x.size(result)).append(' ').append(matches(x, result));
-            for (int how = 0; x.size(result) >= 0 && how < 6; how++) {
-                for (int group = 0; group < x.groups(result, how / 2, how % 2 == 0); group++) {
-                    text.append(' ').append(x.groupAt(result, how / 2, how % 2 == 0, group));
-                }
-            }
-        }
-        return text.toString();
-    }
 }
