@@ -277,8 +277,8 @@ public final class PatternCasesTest extends Cases {
         found("promise 11, label: the others stay, unlike", "1223", ".A.B+b+a+", "");
         found("promise 11, label: not set while its test matches", "11", "aA", "");
         found("promise 11, label: set in one part of an either-or", "1213", "1A2|.+a+", "0+3");
-        int[] due = {0, 1};
-        for (int kind : due) {
+        int[] kinds = {0, 1};
+        for (int kind : kinds) {
             seen("promise 11, label: read by its test, then set to its token, kind " + kind,
                     kind == 0 ? "" : "0+3", () -> {
                         Corpusline x = new Corpusline();
@@ -313,11 +313,11 @@ public final class PatternCasesTest extends Cases {
         due("promise 12, both: it counts one", 3, () -> States.withPile("..&"),
                 x -> x.repeat(3, 3));
         due("promise 12, both: of 8 tests, one by one", 1, () -> States.withPile(FULL), x -> {
-            int parts7 = 0;
+            int left = 0;
             for (int i = 0; i < 7; i++) {
-                parts7 = x.both();
+                left = x.both();
             }
-            return parts7;
+            return left;
         });
         found("promise 12, both: a token that both match", "123", "2.&", "1+1");
         found("promise 12, both: a token that the first one matches alone", "1", "12&", "");

@@ -1,6 +1,6 @@
 /** States that boundary cases begin with. Each call makes an object of its own. */
 public final class States {
-    public static final int MOST_TOKENS = 40, MOST_TESTS = 8, MOST_PATTERNS = 12;
+    private static final int MOST_TOKENS = 40;
 
     /** Of the rich states: the sentences 0 to 2 on each side, the patterns 0 to 3. */
     public static final int RICH_SENTENCES = 3, RICH_PATTERNS = 4;
