@@ -333,6 +333,38 @@ public final class PatternCasesTest extends Cases {
         found("promise 12, both: two labels, one of them not set", "111", ".A.+ab&+", "");
     }
 
+    /** A joined test may compare all attributes with one label, or with each of them. */
+    private static void bothOfAllAttributes() {
+        Start start = () -> {
+            Corpusline x = new Corpusline();
+            int[][] tokens = {{1, 2, 3}, {1, 2, 3}, {1, 2, 4}, {1, 5, 4}, {6, 5, 4}, {6, 5, 4}};
+            for (int[] t : tokens) {
+                x.token(0, t[0], t[1], t[2]);
+            }
+            return x;
+        };
+        for (int label = 0; label < 3; label++) {
+            int b = label;
+            seen("promise 12, both: all attributes of the label " + b, "0+2 4+2", start, x -> {
+                x.any();
+                x.label(b);
+                sames(x, b, b, b);
+                x.chain();
+                x.run(0, x.keep(), 0, 0, true);
+                return Build.matches(x, 0);
+            });
+        }
+        seen("promise 12, both: all attributes of all labels", "0+2 4+2", start, x -> {
+            Build.put(x, ".ABC");
+            for (int i = 0; i < 3; i++) {
+                sames(x, i, i, i);
+            }
+            Build.put(x, "&&+");
+            x.run(0, x.keep(), 0, 0, true);
+            return Build.matches(x, 0);
+        });
+    }
+
     private static void chainAndEither() {
         String[] wrong = {"", ".", "..&", ".{11", FULL_CHAIN, FULL_REPEAT, ".....|||+"};
         for (String pile : wrong) {
@@ -464,7 +496,8 @@ public final class PatternCasesTest extends Cases {
                         (int) c[2], () -> States.withPile(pile), x -> x.repeat(l, most));
             }
         }
-        Object[][] tooMany = {{".......+", 2}, {"...++", 3}, {".....+++", 2}, {FULL, 2}, {FULL, 3}, {FULL_CHAIN, 2}, {FULL_REPEAT, 3}, {".......", 3},
+        Object[][] tooMany = {{".......+", 2}, {"...++", 3}, {".....+++", 2},
+            {FULL, 2}, {FULL, 3}, {FULL_CHAIN, 2}, {FULL_REPEAT, 3}, {".......", 3},
             {".....+", 3}, {".{33", 3}, {".{22{22", 3}, {"........&", 3}, {".....++++", 2},
             {"...|..|", 3}, {".{03..++", 2}, {".{13.{13..+", 2}};
         for (Object[] t : tooMany) {
@@ -628,6 +661,7 @@ public final class PatternCasesTest extends Cases {
         label();
         labelMatches();
         both();
+        bothOfAllAttributes();
         chainAndEither();
         chainMatches();
         repeatRanges();

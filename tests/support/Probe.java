@@ -153,7 +153,6 @@ public final class Probe {
         }
     }
 
-
     private void patterns(int from) {
         for (int i = from; i < from + 7; i++) {
             for (int k = 0; k < 12; k++) {
